@@ -63,7 +63,8 @@ public final class PathTree {
         if (found instanceof FileEntry file) {
             opened = file;
         } else if (found == null) {
-            opened = madeFile();
+            Directory home = homeOfNew();
+            opened = home == null ? null : newFile(home);
         }
         text.clear();
         return opened != null;
@@ -192,13 +193,9 @@ public final class PathTree {
         if (from == to) {
             return here;
         }
-        if (here instanceof Directory directory) {
-            return stepFromDirectory(directory, from, to);
+        if (!(here instanceof Directory directory)) {
+            return null;
         }
-        return null;
-    }
-
-    private Entry stepFromDirectory(Directory directory, int from, int to) {
         if (text.isDot(from, to)) {
             return directory;
         }
@@ -220,11 +217,7 @@ public final class PathTree {
         return home;
     }
 
-    private FileEntry madeFile() {
-        Directory home = homeOfNew();
-        if (home == null) {
-            return null;
-        }
+    private FileEntry newFile(Directory home) {
         FileEntry file = new FileEntry(text.lastName());
         home.admit(file);
         files++;
@@ -358,8 +351,7 @@ public final class PathTree {
         /** Below, at or above 0 as the name comes before, is, or comes behind the characters from .. to - 1. */
         final int order(char[] characters, int from, int to) {
             int size = to - from;
-            int shared = Math.min(name.length, size);
-            for (int i = 0; i < shared; i++) {
+            for (int i = 0; i < name.length && i < size; i++) {
                 if (name[i] != characters[from + i]) {
                     return name[i] - characters[from + i];
                 }
