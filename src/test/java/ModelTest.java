@@ -1,9 +1,10 @@
 import java.util.Random;
 
-/** Long runs of mixed calls, of which each answer and all counts are held against the model's. */
+/** Runs of 512 mixed calls, of which each answer is held against the model's. */
 public final class ModelTest {
-    private static final int RUNS = 1500;
+    private static final int RUNS = 6000;
     private static final int CALLS = 512;
+    private static final int LAST_LOOK = 64;
     private static final String[] PARTS = {"a", "b", "c", "ab", "/", "/", "/", "//", ".", "..", "../", "./", "a/", "/b", "a/b",
         "...", " ", "\t", "\n", "~", "nnnnnnnn", "/a/c/b", "b/../a", ""};
     private static final int[] ODD = {Integer.MIN_VALUE, -1, 0, 1, 8, 9, 16, 250, Integer.MAX_VALUE};
@@ -12,6 +13,7 @@ public final class ModelTest {
     private final PathTree tree = new PathTree();
     private final Model model = new Model();
     private final String title;
+    private int call = 0;
 
     private ModelTest(int seed) {
         random = new Random(seed);
@@ -21,52 +23,61 @@ public final class ModelTest {
     public static void main(String[] args) {
         for (int seed = 0; seed < RUNS; seed++) {
             ModelTest test = new ModelTest(seed);
-            for (int call = 0; call < CALLS; call++) {
-                test.callBoth(call);
+            while (test.call < CALLS - LAST_LOOK) {
+                test.callBoth();
+            }
+            while (test.call < CALLS) {
+                test.lookAtBoth();
             }
         }
         Run.finish();
     }
 
-    private void callBoth(int call) {
-        int kind = random.nextInt(24);
-        switch (kind) {
-            case 0 -> due(call, "find", tree.find(), model.find());
-            case 1, 2 -> due(call, "make", tree.make(), model.make());
-            case 3 -> due(call, "go", tree.go(), model.go());
-            case 4, 5 -> due(call, "open", tree.open(), model.open());
-            case 6 -> due(call, "remove", tree.remove(), model.remove());
-            case 7, 8 -> due(call, "move", tree.move(), model.move());
-            case 9 -> due(call, "empty", tree.empty(), model.empty());
-            case 10, 11, 12 -> writeBoth(call);
-            case 13 -> pathBoth(call, random.nextLong(), number(8));
+    private void callBoth() {
+        switch (random.nextInt(32)) {
+            case 0 -> due("find", tree.find(), model.find());
+            case 1, 2 -> due("make", tree.make(), model.make());
+            case 3 -> due("go", tree.go(), model.go());
+            case 4, 5 -> due("open", tree.open(), model.open());
+            case 6 -> due("remove", tree.remove(), model.remove());
+            case 7, 8 -> due("move", tree.move(), model.move());
+            case 9 -> due("empty", tree.empty(), model.empty());
+            case 10, 11, 12 -> writeBoth();
+            case 13 -> pathBoth(random.nextLong(), number(8));
+            case 14, 15, 16, 17, 18, 19, 20, 21 -> lookAtBoth();
             default -> {
                 String part = PARTS[random.nextInt(PARTS.length)];
-                pathBoth(call, Run.packed(part), part.length());
+                pathBoth(Run.packed(part), part.length());
             }
         }
-        compareStates(call);
     }
 
-    private void writeBoth(int call) {
+    private void writeBoth() {
         long bytes = random.nextLong();
         int n = number(8);
-        due(call, "write(" + bytes + ", " + n + ")", tree.write(bytes, n), model.write(bytes, n));
+        due("write(" + bytes + ", " + n + ")", tree.write(bytes, n), model.write(bytes, n));
     }
 
-    private void pathBoth(int call, long chars, int n) {
-        due(call, "path(" + chars + ", " + n + ")", tree.path(chars, n), model.path(chars, n));
+    private void pathBoth(long chars, int n) {
+        due("path(" + chars + ", " + n + ")", tree.path(chars, n), model.path(chars, n));
     }
 
-    private void compareStates(int call) {
-        for (int what = -1; what < 8; what++) {
-            due(call, "count(" + what + ")", tree.count(what), model.count(what));
+    private void lookAtBoth() {
+        switch (random.nextInt(4)) {
+            case 0 -> {
+                int k = number(6);
+                int i = number(4);
+                due("name(" + k + ", " + i + ")", tree.name(k, i), model.name(k, i));
+            }
+            case 1 -> {
+                int i = number(Math.max(0, model.count(6)));
+                due("byteAt(" + i + ")", tree.byteAt(i), model.byteAt(i));
+            }
+            default -> {
+                int what = number(7);
+                due("count(" + what + ")", tree.count(what), model.count(what));
+            }
         }
-        int k = number(6);
-        int i = number(4);
-        due(call, "name(" + k + ", " + i + ")", tree.name(k, i), model.name(k, i));
-        int at = number(Math.max(0, model.count(6)));
-        due(call, "byteAt(" + at + ")", tree.byteAt(at), model.byteAt(at));
     }
 
     /** Mostly 0 .. most, now and then something odd. */
@@ -74,11 +85,12 @@ public final class ModelTest {
         return random.nextInt(12) == 0 ? ODD[random.nextInt(ODD.length)] : random.nextInt(most + 1);
     }
 
-    private void due(int call, String what, int got, int want) {
+    private void due(String what, int got, int want) {
+        call++;
         Run.due(title + ", call " + call + ": " + what, got, want);
     }
 
-    private void due(int call, String what, boolean got, boolean want) {
-        Run.due(title + ", call " + call + ": " + what, got, want);
+    private void due(String what, boolean got, boolean want) {
+        due(what, got ? 1 : 0, want ? 1 : 0);
     }
 }

@@ -1,12 +1,54 @@
-/** A fresh PathTree whose answers are held against those that are due; paths are given as texts. */
+/**
+ * A fresh PathTree whose answers are held against those that are due; paths are given as texts. It
+ * bears the document's sentence that it tests, and is itself wrong if it takes more calls than those
+ * of which the document speaks.
+ */
 final class Run {
+    private static final int NONE = PathTree.NONE;
+    private static final int MOST_CALLS = 512;
     private static int wrong = 0;
 
-    final PathTree tree = new PathTree();
-    private final String title;
+    private final PathTree tree = new PathTree();
+    private final String sentence;
+    private final int mostCalls;
+    private int calls = 0;
+    /** The path that must stand in the tree now. */
+    private String path = "";
 
-    Run(String title) {
-        this.title = title;
+    Run(String sentence) {
+        this(sentence, MOST_CALLS);
+    }
+
+    private Run(String sentence, int mostCalls) {
+        this.sentence = sentence;
+        this.mostCalls = mostCalls;
+    }
+
+    /** For bounds that no 512 calls reach. */
+    static Run ofManyCalls(String sentence) {
+        return new Run(sentence, Integer.MAX_VALUE);
+    }
+
+    /** The directories d and d/e, the file d/f with abc and the open file g with xy; the root is at hand. */
+    static Run ofSample(String sentence) {
+        Run run = new Run(sentence);
+        run.make("d", true);
+        run.make("d/e", true);
+        run.open("d/f", true);
+        run.write("abc", 3);
+        run.open("g", true);
+        run.write("xy", 2);
+        return run;
+    }
+
+    /** Nothing of the sample has changed. */
+    void sampleStands() {
+        totals(2, 3, 5);
+        count(4, 0);
+        lists("d", "g");
+        holds("xy");
+        find("d/e", 2);
+        find("d/f", 1);
     }
 
     /** To be called last: ends the test with exit code 1 if an answer was not as due. */
@@ -37,59 +79,96 @@ final class Run {
         return bits;
     }
 
-    Run type(String path) {
-        for (int i = 0; i < path.length(); i += 8) {
-            String part = path.substring(i, Math.min(path.length(), i + 8));
-            int before = tree.count(5);
-            due(told("path", part), tree.path(packed(part), part.length()), before + part.length());
+    int calls() {
+        return calls;
+    }
+
+    /** A call by which the path must stay as it is. */
+    void pathRefused(long chars, int n) {
+        called("path(" + chars + ", " + n + ")", tree.path(chars, n), NONE);
+    }
+
+    /** A call by which the text must come behind the path. */
+    void path(long chars, int n, String text) {
+        path += text;
+        called("path(" + chars + ", " + n + ")", tree.path(chars, n), path.length());
+    }
+
+    void type(String text) {
+        for (int i = 0; i < text.length(); i += 8) {
+            String part = text.substring(i, Math.min(text.length(), i + 8));
+            path(packed(part), part.length(), part);
         }
-        return this;
     }
 
-    void find(String path, int want) {
-        due(told("find", path), type(path).tree.find(), want);
-        pathIsEmpty("find", path);
+    void find(String text, int want) {
+        type(text);
+        used("find", tree.find(), want);
     }
 
-    void make(String path, boolean want) {
-        due(told("make", path), type(path).tree.make(), want);
-        pathIsEmpty("make", path);
+    void make(String text, boolean want) {
+        type(text);
+        used("make", tree.make(), want);
     }
 
-    void go(String path, boolean want) {
-        due(told("go", path), type(path).tree.go(), want);
-        pathIsEmpty("go", path);
+    void go(String text, boolean want) {
+        type(text);
+        used("go", tree.go(), want);
     }
 
-    void open(String path, boolean want) {
-        due(told("open", path), type(path).tree.open(), want);
-        pathIsEmpty("open", path);
+    void open(String text, boolean want) {
+        type(text);
+        used("open", tree.open(), want);
     }
 
-    void remove(String path, boolean want) {
-        due(told("remove", path), type(path).tree.remove(), want);
-        pathIsEmpty("remove", path);
+    void remove(String text, boolean want) {
+        type(text);
+        used("remove", tree.remove(), want);
     }
 
-    void move(String path, boolean want) {
-        due(told("move", path), type(path).tree.move(), want);
-        pathIsEmpty("move", path);
+    void move(String text, boolean want) {
+        type(text);
+        used("move", tree.move(), want);
+    }
+
+    void empty(int want) {
+        called("empty()", tree.empty(), want);
+    }
+
+    void write(long bytes, int n, int want) {
+        called("write(" + bytes + ", " + n + ")", tree.write(bytes, n), want);
     }
 
     void write(String bytes, int want) {
-        due(told("write", bytes), tree.write(packed(bytes), bytes.length()), want);
+        write(packed(bytes), bytes.length(), want);
+    }
+
+    void byteAt(int i, int want) {
+        called("byteAt(" + i + ")", tree.byteAt(i), want);
+    }
+
+    void name(int k, int i, int want) {
+        called("name(" + k + ", " + i + ")", tree.name(k, i), want);
     }
 
     void count(int what, int want) {
-        due(told("count", "" + what), tree.count(what), want);
+        called("count(" + what + ")", tree.count(what), want);
+    }
+
+    void pathIsEmpty() {
+        count(5, 0);
+    }
+
+    void noneIsOpen() {
+        count(6, NONE);
     }
 
     /** The open file's bytes, which end there. */
     void holds(String bytes) {
         for (int i = 0; i < bytes.length(); i++) {
-            due(told("byteAt", "" + i), tree.byteAt(i), bytes.charAt(i));
+            byteAt(i, bytes.charAt(i));
         }
-        due(told("byteAt", "" + bytes.length()), tree.byteAt(bytes.length()), PathTree.NONE);
+        byteAt(bytes.length(), NONE);
         count(6, bytes.length());
     }
 
@@ -97,19 +176,35 @@ final class Run {
     void lists(String... names) {
         for (int k = 0; k < names.length; k++) {
             for (int i = 0; i < names[k].length(); i++) {
-                due(told("name", k + ", " + i), tree.name(k, i), names[k].charAt(i));
+                name(k, i, names[k].charAt(i));
             }
-            due(told("name", k + ", " + names[k].length()), tree.name(k, names[k].length()), PathTree.NONE);
+            name(k, names[k].length(), NONE);
         }
-        due(told("name", names.length + ", 0"), tree.name(names.length, 0), PathTree.NONE);
+        name(names.length, 0, NONE);
         count(3, names.length);
     }
 
-    private void pathIsEmpty(String call, String path) {
-        due(told("the path's length behind " + call, path), tree.count(5), 0);
+    /** All files, directories (with the root) and bytes that there are. */
+    void totals(int files, int directories, int bytes) {
+        count(0, files);
+        count(1, directories);
+        count(2, bytes);
     }
 
-    private String told(String call, String argument) {
-        return title + ": " + call + "(" + argument + ")";
+    private void used(String call, int got, int want) {
+        called(call + "() by \"" + path + "\"", got, want);
+        path = "";
+    }
+
+    private void used(String call, boolean got, boolean want) {
+        used(call, got ? 1 : 0, want ? 1 : 0);
+    }
+
+    private void called(String call, int got, int want) {
+        calls++;
+        due(sentence + ": " + call, got, want);
+        if (calls == mostCalls + 1) {
+            due(sentence + ": the test, which may make " + mostCalls + " calls,", calls, mostCalls);
+        }
     }
 }
