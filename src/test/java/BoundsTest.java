@@ -7,20 +7,20 @@ public final class BoundsTest {
     private static final int NONE = PathTree.NONE;
 
     public static void main(String[] args) {
-        mostEntriesOf512Calls();
-        mostBytesOf512Calls();
-        deepestOf512Calls();
-        lessThan300();
-        rootCounts();
-        fullTreeStillOpensAndMoves();
-        placeOfRemovedFileIsFree();
-        placeOfReplacedFileIsFree();
-        fileOf16384Bytes();
-        allOf65536Bytes();
-        bytesBeyondAreLost();
-        bytesBeyondAllAreLost();
-        roomComesBack();
-        Run.finish();
+        Run.all(
+            BoundsTest::mostEntriesOf512Calls,
+            BoundsTest::mostBytesOf512Calls,
+            BoundsTest::deepestOf512Calls,
+            BoundsTest::lessThan300,
+            BoundsTest::rootCounts,
+            BoundsTest::fullTreeStillOpensAndMoves,
+            BoundsTest::placeOfRemovedFileIsFree,
+            BoundsTest::placeOfReplacedFileIsFree,
+            BoundsTest::fileOf16384Bytes,
+            BoundsTest::allOf65536Bytes,
+            BoundsTest::bytesBeyondAreLost,
+            BoundsTest::bytesBeyondAllAreLost,
+            BoundsTest::roomComesBack);
     }
 
     private static void mostEntriesOf512Calls() {

@@ -4,39 +4,40 @@ public final class Promises10To13Test {
     private static final int[] FAR = {Integer.MIN_VALUE, -300, -2, -1, 300, 65536, Integer.MAX_VALUE};
 
     public static void main(String[] args) {
-        removeFile();
-        removeFromEachPlace();
-        removeLeavesOpenFile();
-        removeWhatIsNoFile();
-        removeEmptiesThePath();
-        moveIntoDirectory();
-        moveToName();
-        moveKeepsTheFile();
-        moveOverFile();
-        moveOverFileInDirectory();
-        moveWithoutFile();
-        moveRemovedFile();
-        moveWhereNoHomeIs();
-        moveToNameThatCannotBe();
-        moveToItself();
-        moveWhereDirectoryHasTheName();
-        moveEmptiesThePath();
-        moveRefusedEmptiesThePath();
-        nameInOrder();
-        nameOrderStays();
-        nameOfDirectoryAtHand();
-        nameOfNoEntry();
-        nameOfNoCharacter();
-        countFiles();
-        countDirectories();
-        countBytes();
-        countEntriesAtHand();
-        countDirectoriesAbove();
-        countPath();
-        countOpenFile();
-        countOpenFileWithoutOne();
-        countOthers();
-        Run.finish();
+        Run.all(
+            Promises10To13Test::removeFile,
+            Promises10To13Test::removeFromEachPlace,
+            Promises10To13Test::removeLeavesOpenFile,
+            Promises10To13Test::removeWhatIsNoFile,
+            Promises10To13Test::removeEmptiesThePath,
+            Promises10To13Test::moveIntoDirectory,
+            Promises10To13Test::moveToName,
+            Promises10To13Test::moveKeepsTheFile,
+            Promises10To13Test::moveOverFile,
+            Promises10To13Test::moveOverFileInDirectory,
+            Promises10To13Test::moveWithoutFile,
+            Promises10To13Test::moveRemovedFile,
+            Promises10To13Test::moveWhereNoHomeIs,
+            Promises10To13Test::moveToNameThatCannotBe,
+            Promises10To13Test::moveToItself,
+            Promises10To13Test::moveWhereDirectoryHasTheName,
+            Promises10To13Test::moveEmptiesThePath,
+            Promises10To13Test::moveRefusedEmptiesThePath,
+            Promises10To13Test::nameCharacterByCharacter,
+            Promises10To13Test::nameInOrder,
+            Promises10To13Test::nameOrderStays,
+            Promises10To13Test::nameOfDirectoryAtHand,
+            Promises10To13Test::nameOfNoEntry,
+            Promises10To13Test::nameOfNoCharacter,
+            Promises10To13Test::countFiles,
+            Promises10To13Test::countDirectories,
+            Promises10To13Test::countBytes,
+            Promises10To13Test::countEntriesAtHand,
+            Promises10To13Test::countDirectoriesAbove,
+            Promises10To13Test::countPath,
+            Promises10To13Test::countOpenFile,
+            Promises10To13Test::countOpenFileWithoutOne,
+            Promises10To13Test::countOthers);
     }
 
     private static void removeFile() {
@@ -277,6 +278,18 @@ public final class Promises10To13Test {
         run.open("", false);
         run.move("h", false);
         run.pathIsEmpty();
+    }
+
+    private static void nameCharacterByCharacter() {
+        Run run = new Run("Promise 12: The i-th character of the name of the k-th entry");
+        run.make("first", true);
+        run.open("second", true);
+        run.name(0, 0, 'f');
+        run.name(0, 4, 't');
+        run.name(1, 0, 's');
+        run.name(1, 1, 'e');
+        run.name(1, 5, 'd');
+        run.lists("first", "second");
     }
 
     private static void nameInOrder() {

@@ -4,31 +4,31 @@ public final class Promises1To5Test {
     private static final int[] NO_BYTE_COUNTS = {-1, 9, 10, 16, 64, 256, 257, -8, -255, Integer.MIN_VALUE, Integer.MAX_VALUE};
 
     public static void main(String[] args) {
-        rootAlone();
-        rootIsAtHand();
-        emptyPathAtFirst();
-        objectsAreApart();
-        pathTakesTheLowestBytes();
-        pathTakesTheHighestFirst();
-        pathComesBehindThePath();
-        pathOfNoBytes();
-        pathOfWrongByteCount();
-        pathOfNoCharacter();
-        pathLooksAtTheLowestBytesAlone();
-        pathTooLong();
-        pathRefusedChangesNothing();
-        findNothing();
-        findFile();
-        findDirectory();
-        findEmptiesThePath();
-        makeDirectory();
-        makeEmptiesThePath();
-        makeWhereSomethingIs();
-        makeWhatCannotBe();
-        goToDirectory();
-        goNowhere();
-        goEmptiesThePath();
-        Run.finish();
+        Run.all(
+            Promises1To5Test::rootAlone,
+            Promises1To5Test::rootIsAtHand,
+            Promises1To5Test::emptyPathAtFirst,
+            Promises1To5Test::objectsAreApart,
+            Promises1To5Test::pathTakesTheLowestBytes,
+            Promises1To5Test::pathTakesTheHighestFirst,
+            Promises1To5Test::pathComesBehindThePath,
+            Promises1To5Test::pathOfNoBytes,
+            Promises1To5Test::pathOfWrongByteCount,
+            Promises1To5Test::pathOfNoCharacter,
+            Promises1To5Test::pathLooksAtTheLowestBytesAlone,
+            Promises1To5Test::pathTooLong,
+            Promises1To5Test::pathRefusedChangesNothing,
+            Promises1To5Test::findNothing,
+            Promises1To5Test::findFile,
+            Promises1To5Test::findDirectory,
+            Promises1To5Test::findEmptiesThePath,
+            Promises1To5Test::makeDirectory,
+            Promises1To5Test::makeEmptiesThePath,
+            Promises1To5Test::makeWhereSomethingIs,
+            Promises1To5Test::makeWhatCannotBe,
+            Promises1To5Test::goToDirectory,
+            Promises1To5Test::goNowhere,
+            Promises1To5Test::goEmptiesThePath);
     }
 
     private static void rootAlone() {

@@ -4,31 +4,32 @@ public final class Promises6To9Test {
     private static final int[] NO_BYTE_COUNTS = {-1, 9, 10, 16, 64, 256, 257, -8, -255, Integer.MIN_VALUE, Integer.MAX_VALUE};
 
     public static void main(String[] args) {
-        openFileThatIsThere();
-        openNewFile();
-        openWhatCannotBe();
-        openDirectory();
-        openEmptiesThePath();
-        emptyLosesAllBytes();
-        emptyOfNoBytes();
-        emptyWithoutFile();
-        emptyOfRemovedFile();
-        writeTheLowestBytes();
-        writeTheHighestFirst();
-        writeToTheEnd();
-        writeOfNoBytes();
-        writeHowManyItHas();
-        writeWithoutFile();
-        writeOfWrongByteCount();
-        writeToRemovedFile();
-        removedFileHasNoBytes();
-        byteAtOfEachValue();
-        byteAtOutside();
-        byteAtOfEmptyFile();
-        byteAtBehindEmpty();
-        byteAtWithoutFile();
-        byteAtOfRemovedFile();
-        Run.finish();
+        Run.all(
+            Promises6To9Test::openFileThatIsThere,
+            Promises6To9Test::openNewFile,
+            Promises6To9Test::openWhatCannotBe,
+            Promises6To9Test::openDirectory,
+            Promises6To9Test::openEmptiesThePath,
+            Promises6To9Test::emptyLosesAllBytes,
+            Promises6To9Test::emptyOfNoBytes,
+            Promises6To9Test::emptyWithoutFile,
+            Promises6To9Test::emptyOfRemovedFile,
+            Promises6To9Test::writeTheLowestBytes,
+            Promises6To9Test::writeTheHighestFirst,
+            Promises6To9Test::writeToTheEnd,
+            Promises6To9Test::writeOfNoBytes,
+            Promises6To9Test::writeHowManyItHas,
+            Promises6To9Test::writeWithoutFile,
+            Promises6To9Test::writeOfWrongByteCount,
+            Promises6To9Test::writeToRemovedFile,
+            Promises6To9Test::newEntryIsNotTheRemovedFile,
+            Promises6To9Test::removedFileHasNoBytes,
+            Promises6To9Test::byteAtOfEachValue,
+            Promises6To9Test::byteAtOutside,
+            Promises6To9Test::byteAtOfEmptyFile,
+            Promises6To9Test::byteAtBehindEmpty,
+            Promises6To9Test::byteAtWithoutFile,
+            Promises6To9Test::byteAtOfRemovedFile);
     }
 
     private static void openFileThatIsThere() {
@@ -230,6 +231,19 @@ public final class Promises6To9Test {
         for (int n : NO_BYTE_COUNTS) {
             run.write(-1, n, NONE);
         }
+    }
+
+    private static void newEntryIsNotTheRemovedFile() {
+        Run run = Run.ofSample("Promise 8: A file that was removed has no bytes and gets none, another having its place");
+        run.remove("g", true);
+        run.make("g", true);
+        run.make("h", true);
+        run.write("a", 0);
+        run.holds("");
+        run.empty(0);
+        run.move("h", false);
+        run.find("g", 2);
+        run.totals(1, 5, 3);
     }
 
     private static void removedFileHasNoBytes() {

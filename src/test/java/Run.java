@@ -51,6 +51,19 @@ final class Run {
         find("d/f", 1);
     }
 
+    /** Runs each test, also behind one in which a call threw, and ends. */
+    static void all(Runnable... tests) {
+        for (Runnable test : tests) {
+            try {
+                test.run();
+            } catch (RuntimeException | StackOverflowError thrown) {
+                wrong++;
+                thrown.printStackTrace(System.out);
+            }
+        }
+        finish();
+    }
+
     /** To be called last: ends the test with exit code 1 if an answer was not as due. */
     static void finish() {
         System.out.println(wrong == 0 ? "all answers are as due" : wrong + " answers are not as due");

@@ -3,33 +3,34 @@ public final class TermsTest {
     private static final String LONGEST_NAME = "n".repeat(60);
 
     public static void main(String[] args) {
-        textsOfUpTo250();
-        charactersOfPaths();
-        charactersStayWhatTheyAre();
-        fromTheRootOrFromAtHand();
-        emptyNames();
-        dot();
-        dotDot();
-        dotDotOfTheRoot();
-        otherNames();
-        behindFiles();
-        behindNothing();
-        endsWithSlash();
-        emptyPath();
-        lastNameBehindSlash();
-        lastNameWithoutSlash();
-        homeOfTheRest();
-        homeWithoutSlash();
-        homeOfOnlySlash();
-        homeIsThere();
-        nameOfNoCharacters();
-        nameOfOneCharacter();
-        nameOf60Characters();
-        nameOf61Characters();
-        nameIsNoDots();
-        namesNearDots();
-        noEntryThere();
-        Run.finish();
+        Run.all(
+            TermsTest::textsOfUpTo250,
+            TermsTest::charactersOfPaths,
+            TermsTest::charactersStayWhatTheyAre,
+            TermsTest::fromTheRootOrFromAtHand,
+            TermsTest::namesBetweenSlashes,
+            TermsTest::emptyNames,
+            TermsTest::dot,
+            TermsTest::dotDot,
+            TermsTest::dotDotOfTheRoot,
+            TermsTest::otherNames,
+            TermsTest::behindFiles,
+            TermsTest::behindNothing,
+            TermsTest::endsWithSlash,
+            TermsTest::emptyPath,
+            TermsTest::lastNameBehindSlash,
+            TermsTest::lastNameWithoutSlash,
+            TermsTest::homeOfTheRest,
+            TermsTest::homeWithoutSlash,
+            TermsTest::homeOfOnlySlash,
+            TermsTest::homeIsThere,
+            TermsTest::nameOfNoCharacters,
+            TermsTest::nameOfOneCharacter,
+            TermsTest::nameOf60Characters,
+            TermsTest::nameOf61Characters,
+            TermsTest::nameIsNoDots,
+            TermsTest::namesNearDots,
+            TermsTest::noEntryThere);
     }
 
     private static void textsOfUpTo250() {
@@ -87,6 +88,21 @@ public final class TermsTest {
         run.find("/a/b", 1);
         run.find("a", 0);
         run.find("/a", 2);
+    }
+
+    private static void namesBetweenSlashes() {
+        Run run = new Run("NAMES lie between /");
+        run.make("a b", true);
+        run.make("a b/c\\d", true);
+        run.make("a b/c\\d/\t:\n", true);
+        run.find("a b/c\\d/\t:\n", 2);
+        run.find("a", 0);
+        run.find("a b/c", 0);
+        run.lists("a b");
+        run.go("a b", true);
+        run.lists("c\\d");
+        run.go("c\\d", true);
+        run.lists("\t:\n");
     }
 
     private static void emptyNames() {
